@@ -32,12 +32,11 @@ public final class SwordSeat {
     private static final int SIZE_FAULT = 4;
 
     private final Realm now = new Realm();
-    /** What a text, a sheet or a seed does is tried here first: what is refused must change nothing. */
-    private final Realm draft = new Realm();
+    /** What a sheet or a seed does is tried here first: what is refused must change nothing. */
+    private final Realm trial = new Realm();
     private final Realm[] images = new Realm[IMAGES];
     private final boolean[] kept = new boolean[IMAGES];
-    private final Tape tape = new Tape();
-    private final Reader reader = new Reader(tape, draft);
+    private final Reader reader = new Reader();
     private final Odds odds = new Odds();
     private final Seen seen = new Seen();
     private final Sheet[] sheets = new Sheet[SHEETS];
@@ -58,23 +57,23 @@ public final class SwordSeat {
         if (!within(c, 0, 127)) {
             return BAD;
         }
-        return tape.append(c) ? tape.length : FULL;
+        return reader.tape.append(c) ? reader.tape.length : FULL;
     }
 
     public int end(int n) {
-        if (!within(n, 0, tape.length)) {
+        if (!within(n, 0, reader.tape.length)) {
             return BAD;
         }
-        int had = tape.length;
-        tape.length = n;
+        int had = reader.tape.length;
+        reader.tape.length = n;
         return had;
     }
 
     public int text() {
         int answer = reader.readAll();
-        tape.length = 0;
+        reader.tape.length = 0;
         if (reader.fault == NO_FAULT) {
-            now.copy(draft);
+            now.copy(reader.draft);
             seen.many = 0;
             for (int k = 0; k < kept.length; k++) {
                 kept[k] = false;
@@ -430,21 +429,21 @@ public final class SwordSeat {
         if (!within(n, 1, LONGEST_DRIFT) || !within(what, 0, 1)) {
             return BAD;
         }
-        draft.copy(now);
+        trial.copy(now);
         int held = 0;
         int next = seed;
-        for (int t = 0; t < n && draft.whole != 0; t++) {
+        for (int t = 0; t < n && trial.whole != 0; t++) {
             int broken = 0;
-            for (int i = 0; i < draft.hairs; i++) {
-                if (draft.wholeBit(i) == 1) {
+            for (int i = 0; i < trial.hairs; i++) {
+                if (trial.wholeBit(i) == 1) {
                     next = next * 1103515245 + 12345;
-                    broken |= (next >>> 16 & 0x7fff) % 10 < draft.breaks(i) ? 1 << i : 0;
+                    broken |= (next >>> 16 & 0x7fff) % 10 < trial.breaks(i) ? 1 << i : 0;
                 }
             }
-            draft.passHour(broken);
-            held += draft.whole != 0 ? 1 : 0;
+            trial.passHour(broken);
+            held += trial.whole != 0 ? 1 : 0;
         }
-        return what == 0 ? held : draft.whole;
+        return what == 0 ? held : trial.whole;
     }
 
     // ---- images, sheets
@@ -499,20 +498,20 @@ public final class SwordSeat {
             return BAD;
         }
         Sheet sheet = sheets[k];
-        draft.copy(now);
+        trial.copy(now);
         int fault = sheet.faultAs(lane);
         int went = 0;
         for (int i = 0; i < n && fault == NO_FAULT; i++) {
             // The CELL at f was there before a later one is looked for, so f + i never wraps around.
             fault = sheet.faultAt(f + i);
             if (fault == NO_FAULT) {
-                if (draft.tryHour(sheet.cells[f + i]) < 0) {
+                if (trial.tryHour(sheet.cells[f + i]) < 0) {
                     return -20 - i;
                 }
                 went++;
             }
         }
-        now.copy(draft);
+        now.copy(trial);
         torn = fault;
         return went;
     }
@@ -525,7 +524,7 @@ public final class SwordSeat {
         switch (what) {
             case 0: return seen.many;
             case 1: return (kept[0] ? 1 : 0) + (kept[1] ? 1 : 0);
-            case 2: return tape.length;
+            case 2: return reader.tape.length;
             case 3: return sheets[0].lane == Sheet.NOTHING ? NONE : sheets[0].length;
             case 4: return Integer.bitCount(now.whole);
             case 5: return now.allAges();
@@ -787,8 +786,8 @@ public final class SwordSeat {
         private static final int STOP = 3;
         private static final int NO_TOKEN = 4;
 
-        private final Tape tape;
-        private final Realm draft;
+        private final Tape tape = new Tape();
+        private final Realm draft = new Realm();
         private int sort;
         private int from;
         private int to;
@@ -798,11 +797,6 @@ public final class SwordSeat {
         private boolean prizeTold;
         private int fault = NO_FAULT;
         private int place;
-
-        private Reader(Tape tape, Realm draft) {
-            this.tape = tape;
-            this.draft = draft;
-        }
 
         /** As text() answers. */
         private int readAll() {

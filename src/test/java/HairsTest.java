@@ -145,6 +145,9 @@ public final class HairsTest {
         CHECK.due("pay(-1, 0, 1)", x.pay(-1, 0, 1), -1);
         CHECK.due("king(0, 0)", x.king(0, 0), 9);
         CHECK.due("king(0, 1)", x.king(0, 1), 4);
+        CHECK.due("pay(0, 0, 0)", x.pay(0, 0, 0), 9);
+        CHECK.due("pay(0, 1, 0)", x.pay(0, 1, 0), 4);
+        CHECK.due("king(0, 0) then", x.king(0, 0), 0);
         CHECK.due("king(1, 0)", x.king(1, 0), 5);
         CHECK.due("king(1, 1)", x.king(1, 1), 99);
     }

@@ -61,6 +61,8 @@ public final class OddsTest {
         CHECK.dueRatio("mean(1)", x.mean(1, 0), x.mean(1, 1), 9, 5);
         CHECK.dueRatio("mean(2)", x.mean(2, 0), x.mean(2, 1), 801, 500);
         CHECK.dueRatio("of none", new SwordSeat().mean(5, 0), new SwordSeat().mean(5, 1), 0, 1);
+        x = Check.told("hair plain 0;hair plain 0;hair damp 0;");
+        CHECK.dueRatio("of three", x.mean(1, 0), x.mean(1, 1), 29, 10);
         CHECK.due("mean(6, 0)", x.mean(6, 0), -1);
         CHECK.due("mean(-1, 0)", x.mean(-1, 0), -1);
         CHECK.due("mean(1, 2)", x.mean(1, 2), -1);
@@ -110,6 +112,8 @@ public final class OddsTest {
         CHECK.dueRatio("test(9, 1)", x.test(9, 1, 0), x.test(9, 1, 1), 4, 25);
         CHECK.dueRatio("test(1, 4)", x.test(1, 4, 0), x.test(1, 4, 1), 147, 625);
         CHECK.due("load stays", x.rule(3), 3);
+        x.age(0, 1);
+        CHECK.dueRatio("by its age", x.test(3, 1, 0), x.test(3, 1, 1), 14, 25);
         CHECK.due("test(0, 0, 0)", x.test(0, 0, 0), -1);
         CHECK.due("test(10, 0, 0)", x.test(10, 0, 0), -1);
         CHECK.due("test(1, 5, 0)", x.test(1, 5, 0), -1);
@@ -120,6 +124,8 @@ public final class OddsTest {
 
     private static void plaiting() {
         SwordSeat x = Check.told("hair dyed 9;");
+        CHECK.dueRatio("an old one falls", x.falls(1, 0), x.falls(1, 1), 4, 5);
+        CHECK.due("1 tenth", x.plait(2, 5, 1), 2);
         CHECK.due("8 tenths, just", x.plait(0, 1, 8), 1);
         CHECK.due("9 tenths", x.plait(0, 1, 9), 2);
         CHECK.due("10 tenths", x.plait(0, 1, 10), 3);
@@ -171,6 +177,13 @@ public final class OddsTest {
         CHECK.dueRatio("whole by it", x.mend(1, 1), x.mend(1, 2), 4, 5);
         x = Check.told("hair dyed 4;hair sung 4;broken 0;broken 1;");
         CHECK.due("by its kind", x.mend(2, 0), 1);
+        x = Check.told("hair plain 3;hair plain 1;hair sung 7;load 9;");
+        CHECK.due("the third", x.mend(1, 0), 2);
+        x = Check.told("hair plain 0;hair plain 0;hair dyed 1;load 9;broken 2;");
+        CHECK.due("the last one", x.mend(1, 0), 2);
+        CHECK.dueRatio("with it", x.mend(1, 1), x.mend(1, 2), 123, 125);
+        x = Check.told("hair plain 1;broken 0;");
+        CHECK.dueRatio("it is of age 0", x.mend(2, 1), x.mend(2, 2), 16, 25);
         x = Check.told("hair plain 0;hair plain 0;hair plain 0;load 1;");
         CHECK.due("sure already", x.mend(1, 0), -4);
     }

@@ -79,7 +79,8 @@ public final class SeenTest {
 
     private static void drifts() {
         SwordSeat x = Check.told("hair plain 0;hair damp 3;hair sung 5;load 5;");
-        int[][] due = {{0, 1, 1, 6}, {1, 5, 3, 0}, {-1, 5, 3, 0}, {Integer.MIN_VALUE, 3, 3, 6}, {77, 60, 4, 0}};
+        int[][] due = {{0, 1, 1, 6}, {1, 5, 3, 0}, {-1, 5, 3, 0}, {Integer.MIN_VALUE, 3, 3, 6}, {77, 60, 4, 0},
+            {14, 8, 1, 0}, {40, 8, 8, 4}, {214, 8, 8, 5}, {275, 8, 8, 1}};
         for (int[] row : due) {
             String call = "drift(" + row[0] + ", " + row[1];
             CHECK.due(call + ", 0)", x.drift(row[0], row[1], 0), row[2]);

@@ -85,6 +85,7 @@ public final class TextTest {
         x.keep(0);
         x.keep(1);
         x.sheet(0, 2, 3);
+        x.read(0, 2, 0, 1);
         CHECK.due("blanks alone are no lines", Check.tell(x, "   "), 0);
         int[] rules = {0, 0, 0, 3, 9, 0, 0, 1};
         for (int what = 0; what < rules.length; what++) {
@@ -106,6 +107,8 @@ public final class TextTest {
 
     private static void faultsOfTokens() {
         faulty("A", 1, 0);
+        faulty("load 3;" + (char) 0, 1, 7);
+        faulty("" + (char) 127, 1, 0);
         faulty("load 3;\n", 1, 7);
         faulty("load\t3;", 1, 4);
         faulty("load 3:", 1, 6);
@@ -123,6 +126,8 @@ public final class TextTest {
         faulty("load 3;;", 2, 7);
         faulty("hairs plain 1;", 2, 0);
         faulty("hai", 2, 0);
+        faulty("pair plain 1;", 2, 0);
+        faulty("hair slain 1;", 2, 5);
         faulty("plain 1;", 2, 0);
         faulty("hair hair 1;", 2, 5);
         faulty("hair 1;", 2, 5);
@@ -149,6 +154,7 @@ public final class TextTest {
         faulty("broken 3;", 3, 7);
         faulty("load 0 A", 3, 5);
         CHECK.due("the edges", Check.tell(new SwordSeat(), "hair plain 9;king 0 0;law 1 9;law 5 0;load 1;prize 99;"), 6);
+        CHECK.due("the other edges", Check.tell(new SwordSeat(), "hair plain 0;king 9 99;law 5 9;load 9;prize 0;"), 5);
     }
 
     private static void faultsOfRepeats() {
