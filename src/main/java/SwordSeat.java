@@ -499,11 +499,11 @@ public final class SwordSeat {
         }
         Sheet sheet = sheets[k];
         trial.copy(now);
-        int fault = sheet.faultAs(lane);
+        int fault = NO_FAULT;
         int went = 0;
         for (int i = 0; i < n && fault == NO_FAULT; i++) {
             // The CELL at f was there before a later one is looked for, so f + i never wraps around.
-            fault = sheet.faultAt(f + i);
+            fault = sheet.faultAs(lane, f + i);
             if (fault == NO_FAULT) {
                 if (trial.tryHour(sheet.cells[f + i]) < 0) {
                     return -20 - i;
@@ -1237,17 +1237,20 @@ public final class SwordSeat {
             }
         }
 
-        /** The FAULT of taking it as of a lane: as in Java, nothing may be taken as of any. */
-        private int faultAs(int asked) {
-            return lane == NOTHING || lane == asked ? NO_FAULT : CAST_FAULT;
-        }
-
         /** The FAULT of touching a CELL. */
         private int faultAt(int i) {
             if (lane == NOTHING) {
                 return NULL_FAULT;
             }
             return within(i, 0, length - 1) ? NO_FAULT : INDEX_FAULT;
+        }
+
+        /**
+         * The FAULT of touching a CELL, the row being taken as of a lane: as in Java, nothing may be taken as of any.
+         * It is asked for each HOUR, as a read() of no HOURS has none that could be refused.
+         */
+        private int faultAs(int asked, int i) {
+            return lane == NOTHING || lane == asked ? faultAt(i) : CAST_FAULT;
         }
 
         private void write(int i, int v) {

@@ -633,6 +633,10 @@ final class Model {
         }
     }
 
+    private static int cell(Object sheet, int lane, int i) {
+        return lane == 0 ? ((byte[]) sheet)[i] : lane == 1 ? ((short[]) sheet)[i] : ((int[]) sheet)[i];
+    }
+
     int read(int k, int lane, int f, int n) {
         if (k < 0 || k > 3 || lane < 0 || lane > 2 || n < 0 || n > 20) return BAD;
         List<Hair> wereHairs = hairs;
@@ -640,11 +644,8 @@ final class Model {
         int went = 0;
         int found = 0;
         try {
-            byte[] bytes = lane == 0 ? (byte[]) sheets[k] : null;
-            short[] shorts = lane == 1 ? (short[]) sheets[k] : null;
-            int[] ints = lane == 2 ? (int[]) sheets[k] : null;
             for (; went < n; went++) {
-                int breaks = lane == 0 ? bytes[f + went] : lane == 1 ? shorts[f + went] : ints[f + went];
+                int breaks = cell(sheets[k], lane, f + went);
                 if (hour(breaks) < 0) {
                     hairs = wereHairs;
                     hour = wasHour;

@@ -159,16 +159,26 @@ public final class SheetsTest {
         CHECK.due("no fault", x.torn(), 0);
     }
 
-    /** Without an HOUR no CELL is touched, but the SHEET is taken as of a lane all the same. */
+    /** Of 0 HOURS none is refused, whatever the SHEET is; the read() comes to an end all the same. */
     private static void readingNothing() {
         SwordSeat x = new SwordSeat();
         CHECK.due("no hours of nothing", x.read(0, 0, 0, 0), 0);
         CHECK.due("no fault", x.torn(), 0);
-        x.sheet(0, 0, 1);
-        CHECK.due("no hours of another lane", x.read(0, 1, 0, 0), 0);
+        for (int made = 0; made < 3; made++) {
+            for (int taken = 0; taken < 3; taken++) {
+                x.sheet(0, made, 1);
+                x.read(3, 0, 0, 1);
+                CHECK.due("torn before", x.torn(), 1);
+                CHECK.due("no hours of lane " + made + " as " + taken, x.read(0, taken, 0, 0), 0);
+                CHECK.due("no fault", x.torn(), 0);
+                CHECK.due("no hours of no cell", x.read(0, taken, 9, 0), 0);
+                CHECK.due("no fault either", x.torn(), 0);
+            }
+        }
+        CHECK.due("an hour of another lane", x.read(0, 1, 0, 1), 0);
         CHECK.due("CAST", x.torn(), 3);
-        CHECK.due("no hours of no cell", x.read(0, 0, 9, 0), 0);
-        CHECK.due("no fault", x.torn(), 0);
+        CHECK.due("no hours of it", x.read(0, 1, 0, 0), 0);
+        CHECK.due("no fault any more", x.torn(), 0);
     }
 
     private static void readingWrong() {
