@@ -1,3 +1,5 @@
+import java.util.List;
+
 /** What the tests share: counts answers, prints those that are not as due, feeds texts. */
 final class Check {
     private int passed = 0;
@@ -16,6 +18,14 @@ final class Check {
     void dueRatio(String call, long top, long bottom, long wantTop, long wantBottom) {
         due(call + ", numerator", top, wantTop);
         due(call + ", denominator", bottom, wantBottom);
+    }
+
+    /** Two rows of answers that must be alike. */
+    void dueSame(String what, List<Long> got, List<Long> want) {
+        due(what + ": how many answers", got.size(), want.size());
+        for (int i = 0; i < Math.min(got.size(), want.size()); i++) {
+            due(what + ": answer " + i, got.get(i), want.get(i));
+        }
     }
 
     void holds(String what, boolean is) {
