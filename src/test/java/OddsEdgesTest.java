@@ -13,6 +13,7 @@ public final class OddsEdgesTest {
         leftAddsUp();
         sittingAtTheEdges();
         aMeanOf0IsNotMore();
+        theLeastMoreThan0();
         testingAtTheEdges();
         plaitingByTenths();
         bearingByTenths();
@@ -163,6 +164,20 @@ public final class OddsEdgesTest {
         dueSits(x, 1, 3, 29, 125);
     }
 
+    /** Three HAIRS that break by 3 tenths each: it falls by 27 of 1000, so a LIFE of 36 leaves 1 of 1000. */
+    private static void theLeastMoreThan0() {
+        SwordSeat x = Check.told("hair dyed 0;hair dyed 0;hair dyed 0;load 6;king 1 36;king 1 37;prize 0;");
+        dueBest(x, 0, 1, 1, 1000, 1);
+        dueBest(x, 1, 1, 0, 1, 0);
+        dueSits(x, 1, 1, -13, 500);
+        CHECK.due("the first of a duel sits by it, too", x.duel(0, 1, 1, 4), 1);
+        CHECK.dueRatio("what he has", x.duel(0, 1, 1, 0), x.duel(0, 1, 1, 1), 1, 1000);
+        x.set(1, 99);
+        CHECK.dueRatio("the other one has no prize but by the fall", x.duel(0, 1, 1, 2), x.duel(0, 1, 1, 3), 2673, 1000);
+        CHECK.due("the next one leaves", x.duel(1, 0, 1, 4), 0);
+        CHECK.due("king 0 is crowned", x.crown(1, 0), 0);
+    }
+
     /** With a LOAD of v (1 to 9) AN HOUR, then n (0 to 4) more with LOAD as it is. */
     private static void testingAtTheEdges() {
         SwordSeat x = Check.told("hair plain 0;");
@@ -174,6 +189,14 @@ public final class OddsEdgesTest {
         }
         x.set(0, 9);
         dueTest(x, 1, 1, 1, 5);
+        // By AGE 2 it breaks by 3 tenths in the first HOUR already, by AGE 3 in it, too, but by 4 in the second one.
+        x = Check.told("hair plain 2;");
+        dueTest(x, 3, 0, 7, 10);
+        dueTest(x, 3, 1, 49, 100);
+        x.age(0, 3);
+        dueTest(x, 3, 1, 21, 50);
+        x.age(0, 9);
+        dueTest(x, 3, 1, 4, 25);
         dueTest(Check.told(SURE_TO_FALL), 9, 4, 0, 1);
         dueTest(Check.told(SURE_TO_HOLD), 1, 4, 1, 1);
     }
